@@ -322,6 +322,13 @@ public final class PromiseTest {
         due("an actor all h", z.about(1, 2), 1);
         due("a boy all h", z.about(2, 2), 14);
         due("a weeper all h", z.about(3, 2), 15);
+        ReadAloud w = court("a,b,c,d;bbbbbbbbbb");
+        for (int kind = 1; kind < 5; kind++) w.accuse(kind, 0);
+        int[] want = {1, 0, 0, 1};
+        for (int i = 0; i < 4; i++) due("none of ten words near, kind " + (i + 1), w.about(i, 2), want[i]);
+        w.put(9, A);
+        int[] atLast = {513, 512, 0, 513};
+        for (int i = 0; i < 4; i++) due("the last of ten near, kind " + (i + 1), w.about(i, 2), atLast[i]);
     }
 
     private static void aboutHeard() {
@@ -446,6 +453,7 @@ public final class PromiseTest {
         dueBrief("a,b,c,d;abcd", A, B, C, D);
         dueBrief("h,gh,fgh,a;h", A, F, G, H);
         dueBrief("abc,bcd,cde,def;a", A, C, E);
+        dueBrief("e,f,g,h;a", E, F, G, H);
         dueBrief("a,a,b,c;abc");
         dueBrief("a,ab,abc,abd;h", A, B, C, D);
         dueBrief("ab,ac,bc,abc;h", A, B, C);
@@ -661,7 +669,11 @@ public final class PromiseTest {
         due("about(1, 5) of a new one", x.about(1, 5), 0);
         due("about(1, 6) of a new one", x.about(1, 6), 31);
         x.forget();
+        x.hear(1, 0, false);
         due("restore() again", x.restore(), 3);
+        due("about(0, 6) as it was heard", x.about(0, 6), 2);
+        due("forget(), all of it", x.forget(), 1);
+        due("restore() a third time", x.restore(), 3);
         due("digest() again", x.digest(), digest);
         restoreAndTheRest(x);
     }
