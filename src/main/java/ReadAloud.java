@@ -122,7 +122,7 @@ public final class ReadAloud {
             return FULL;
         }
         men[number] = manOfKind(kind, deed);
-        // One who was here before a restore may have left lessons under this number.
+        // One of an earlier court may have left lessons under this number.
         now.hidden[number] = 0;
         now.men++;
         return number;
