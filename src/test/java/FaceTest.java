@@ -92,11 +92,37 @@ public final class FaceTest {
         }
         Class<?>[] inside = ReadAloud.class.getDeclaredClasses();
         if (inside.length > 11) fail("too many classes: " + inside.length);
+        sizes(ReadAloud.class);
         for (Class<?> c : inside) {
             int its = c.getModifiers();
             if (!Modifier.isStatic(its)) fail("an inner class: " + c);
             if (Modifier.isPublic(its) || Modifier.isProtected(its)) fail("a class to be seen: " + c);
+            membersInside(c);
+            sizes(c);
         }
+    }
+
+    /** Rules 1 and 5 for a class inside: no name of the face, no static state. */
+    private static void membersInside(Class<?> c) {
+        for (Method m : c.getDeclaredMethods()) {
+            if (Modifier.isPublic(m.getModifiers())) fail("a public method inside: " + m);
+            if (FACE.stream().anyMatch(call -> call.contains(" " + m.getName() + "("))) {
+                fail("a method inside bears a public name: " + m);
+            }
+        }
+        for (Field f : c.getDeclaredFields()) {
+            int how = f.getModifiers();
+            if (Modifier.isStatic(how) && (!Modifier.isFinal(how) || !f.getType().isPrimitive())) fail("static state: " + f);
+        }
+    }
+
+    /** Rule 11: at most seven parameters, some twenty fields beside the constants. */
+    private static void sizes(Class<?> c) {
+        for (Method m : c.getDeclaredMethods()) {
+            if (m.getParameterCount() > 7) fail("more than seven parameters: " + m);
+        }
+        long fields = Arrays.stream(c.getDeclaredFields()).filter(f -> !Modifier.isStatic(f.getModifiers())).count();
+        if (fields > 20) fail(fields + " fields in " + c);
     }
 
     private static void text() throws java.io.IOException {
@@ -106,6 +132,19 @@ public final class FaceTest {
             Matcher m = Pattern.compile(word).matcher(code);
             if (m.find()) fail("LANGUAGE.md leaves out " + m.group());
         }
+        lengths(source);
+    }
+
+    /** Rule 11: no method has more than sixty lines; a method ends with a brace as deep as it begins. */
+    private static void lengths(String source) {
+        Matcher m = Pattern.compile("(?m)^( +)[a-zA-Z][^;=\n]*\\) \\{\n(?s:.*?)^\\1\\}$").matcher(source);
+        int methods = 0;
+        while (m.find()) {
+            methods++;
+            long lines = m.group().lines().count();
+            if (lines > 60) fail(lines + " lines from " + m.group().lines().findFirst().orElse("").trim());
+        }
+        if (methods < FACE.size()) fail("only " + methods + " methods were found in the text");
     }
 
     public static void main(String[] args) throws Exception {
